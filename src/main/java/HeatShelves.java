@@ -712,7 +712,7 @@ public final class HeatShelves {
         }
 
         private int nextInTurn(State state, boolean isDown) {
-            int count = state.countBlocks();
+            int count = at(state.numbers, BLOCKS);
             int next = NOWHERE;
             int least = 0;
             for (int i = 0; i < count; i++) {
