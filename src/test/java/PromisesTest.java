@@ -15,6 +15,7 @@ public final class PromisesTest {
         promise05Pin();
         promise06Pass();
         promise06Order();
+        promise06Moves();
         promise06Rooms();
         promise06Promises();
         promise07Set();
@@ -155,6 +156,27 @@ public final class PromisesTest {
         due("blocks so far", x.total(16), 4);
         due("undo()", x.undo(), 3);
         due("it is back", x.ofBlock(2, 6), 1);
+
+        x = new HeatShelves();
+        for (int i = 0; i < 24; i++) {
+            x.add(1);
+        }
+        x.read(23, 6);
+        x.pin(23, true);
+        x.set(0, 0);
+        x.set(3, 24);
+        x.pass(1);
+        due("remove(0)", x.remove(0), 2);
+        due("the last of 24 keeps its heat, 0", x.ofBlock(23, 1), 0);
+        due("its pin", x.ofBlock(23, 4), 1);
+        due("its readings", x.ofBlock(23, 6), 6);
+        due("its shelf", x.ofBlock(23, 2), 1);
+        due("the one before is promised", x.ofBlock(22, 5), 5);
+        due("it moved", x.ofBlock(22, 7), 1);
+        due("remove(23)", x.remove(23), 1);
+        due("add(2)", x.add(2), 24);
+        due("it brings nothing of an earlier one", x.ofBlock(24, 4) + x.ofBlock(24, 5) + x.ofBlock(24, 6)
+            + x.ofBlock(24, 7), 0);
 
         x = withBlocks(5);
         x.set(0, 0);
@@ -318,6 +340,31 @@ public final class PromisesTest {
         due("down comes before up", x.pass(1), 1);
         due("the coldest of the fast ones", x.ofBlock(1, 2), 1);
         due("moves by night", x.total(21), 7);
+    }
+
+    private static void promise06Moves() {
+        CHECK.part("6 pass, the count of moves");
+        HeatShelves x = new HeatShelves();
+        for (int i = 0; i < 24; i++) {
+            x.add(1);
+        }
+        x.set(0, 0);
+        due("4 moves", x.ifPassed(1, 1), 4);
+        x.set(3, 23);
+        due("23 moves", x.ifPassed(1, 1), 23);
+        x.set(3, 24);
+        due("24 moves", x.pass(1), 24);
+        due("all are deep", x.shelf(2, 2), 24);
+        due("all moves", x.total(21), 24);
+
+        x = withBlocks(9, 9, 9, 9);
+        x.read(2, 9);
+        x.read(3, 9);
+        x.set(3, 3);
+        due("down and up, together", x.pass(1), 3);
+        due("2 is up", x.ofBlock(2, 2), 0);
+        due("3 is not", x.ofBlock(3, 2), 1);
+        due("3 is up in the next night", x.pass(1), 1);
     }
 
     private static void promise06Rooms() {
