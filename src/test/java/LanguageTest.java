@@ -91,7 +91,7 @@ public final class LanguageTest {
         for (Method method : type.getDeclaredMethods()) {
             CHECK.holds(method + " has at most 7 parameters", method.getParameterCount() <= 7);
             if (Modifier.isPrivate(method.getModifiers())) {
-                CHECK.holds(method + " bears the name of a public one", !publicNames.contains(method.getName()));
+                CHECK.holds(method + " has a name that no public one bears", !publicNames.contains(method.getName()));
             }
         }
     }
@@ -109,7 +109,7 @@ public final class LanguageTest {
             }
             boolean isMade = code.contains("new ");
             boolean isRow = code.startsWith("private final ") || code.equals("states[i] = new State();");
-            CHECK.holds("line " + (i + 1) + " makes an object in a call", !isMade || isRow);
+            CHECK.holds("line " + (i + 1) + " makes no object in a call", !isMade || isRow);
         }
     }
 }
