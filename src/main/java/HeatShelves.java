@@ -817,7 +817,7 @@ public final class HeatShelves {
         private int readAll() {
             count = 0;
             place = 0;
-            while (count < MOST_ORDERS) {
+            for (int i = 0; i < MOST_ORDERS; i++) {
                 if (!readOrder()) {
                     return place;
                 }
