@@ -16,6 +16,7 @@ public final class BoundsOfCallsTest {
         removeUnknown();
         removeIsFree();
         removeOneOf24();
+        sumsWithoutOneOf24();
         nightAfterOneOf24();
         readUnknown();
         readTimes();
@@ -198,9 +199,17 @@ public final class BoundsOfCallsTest {
                     CHECK.holds(block + " stays as it was", Arrays.equals(featuresOf(x, block), before[block]));
                 }
             }
-            sumsOfShelves(x);
             due("add(7)", x.add(7), 24);
             CHECK.holds("the next one", Arrays.equals(featuresOf(x, 24), new int[] {7, 1000, 0, 2, 0, 0, 0, 0}));
+        }
+    }
+
+    private static void sumsWithoutOneOf24() {
+        CHECK.part("Removes a block: one of 24, which counts no more");
+        for (int removed = 0; removed < 24; removed++) {
+            HeatShelves x = fullHouse();
+            x.remove(removed);
+            sumsOfShelves(x);
         }
     }
 
