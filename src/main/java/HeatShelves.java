@@ -384,7 +384,9 @@ public final class HeatShelves {
         private final int[] moves = new int[MOST_BLOCKS];
 
         private State() {
-            copyRow(FIRST_VALUES, numbers);
+            for (int i = 0; i < FIRST_VALUES.length && i < numbers.length; i++) {
+                numbers[i] = FIRST_VALUES[i];
+            }
         }
 
         private void copyFrom(State other) {
